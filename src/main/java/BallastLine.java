@@ -500,7 +500,7 @@ public final class BallastLine {
     private static final class Track {
         // BEDS stay far above it: 512 calls can't sink one by more than some millions.
         private static final int NO_LINE = Integer.MIN_VALUE;
-        private static final byte UNSURE = 0, RESTS = 1, HANGS = 2;
+        private static final int UNSURE = 0, RESTS = 1, HANGS = 2;
 
         private final int[] kinds = new int[MOST_SLEEPERS];
         private final int[] beds = new int[MOST_SLEEPERS];
@@ -509,7 +509,7 @@ public final class BallastLine {
         private final int[] axlesOver = new int[MOST_SLEEPERS];
         private final boolean[] lost = new boolean[MOST_SLEEPERS];
         // Kept, as each axle asks for three GAPS and few BEDS move in between.
-        private final byte[] hanging = new byte[MOST_SLEEPERS];
+        private final int[] hanging = new int[MOST_SLEEPERS];
         private int size;
 
         private Track() {
