@@ -448,6 +448,7 @@ public final class PromisesTest {
     dueBeds(14, "14 passes", x, -1, 0, 0, 0, 0, 0, 0, 0, 0, -1);
 
     passByWhatIsThere();
+    passAfterChanges();
     passByKind();
     passByTable();
     passInOrder();
@@ -538,6 +539,38 @@ public final class PromisesTest {
     x.lose(1, true);
     x.pass(1);
     dueHundredths(14, "a JOINT that is LOST", x, 11, 0, 11);
+  }
+
+  // What hung or rested before a call does not count after it.
+  private static void passAfterChanges() {
+    BallastLine x = withBeds(0, 0, 0, 0, 0, 0, 0);
+    x.axle(4);
+    x.table(0, 1);
+    x.table(1, 1);
+    x.pass(1);
+    dueHundredths(14, "all rest", x, 2, 3, 3, 3, 3, 3, 2);
+    x.bed(3, 40);
+    x.pass(1);
+    dueHundredths(14, "3 is lifted", x, 4, 3, 3, 6, 3, 3, 4);
+    x.lose(3, true);
+    x.pass(1);
+    dueHundredths(14, "3 is LOST", x, 6, 6, 6, 6, 6, 6, 6);
+    x.lose(3, false);
+    x.pass(1);
+    dueHundredths(14, "3 is there again", x, 8, 6, 6, 9, 6, 6, 8);
+    x.bed(3, -40);
+    x.pass(1);
+    dueHundredths(14, "3 hangs", x, 10, 9, 9, 9, 9, 9, 10);
+    x.lift(3, 3, 40);
+    x.pass(1);
+    dueHundredths(14, "3 is lifted by a machine", x, 12, 9, 9, 3, 9, 9, 12);
+    x.line(7);
+    x.pass(1);
+    dueHundredths(14, "as at first", x, 2, 3, 3, 3, 3, 3, 2);
+    x.bed(6, -9);
+    x.bed(0, -9);
+    x.pass(1);
+    dueHundredths(14, "the ends are low", x, 4, 6, 6, 6, 6, 6, 4);
   }
 
   private static void passByTable() {
@@ -686,6 +719,7 @@ public final class PromisesTest {
       }
       dueRow(17, "measure(5, " + k + ")", x, 5, want);
     }
+    x = new BallastLine();
     x.line(40);
     x.bed(35, 8);
     x.measure(5, 4);
@@ -874,6 +908,14 @@ public final class PromisesTest {
     due(23, "copy(0, 40, 1, 40, 0)", x.copy(0, 40, 1, 40, 0), 1);
     due(23, "copy(0, 0, 1, 0, 0)", x.copy(0, 0, 1, 0, 0), 1);
     due(23, "none copied", x.digest(), before);
+    copyRefused();
+  }
+
+  private static void copyRefused() {
+    BallastLine x = new BallastLine();
+    x.level(0);
+    x.level(1);
+    long before = x.digest();
     int[][] beyond = {{0, 0, 41}, {1, 0, 40}, {0, 1, 40}, {39, 0, 2}, {0, 39, 2}, {-1, 0, 1}, {0, -1, 1}, {41, 0, 0},
         {0, 41, 0}, {-1, 0, 0}, {0, -1, 0}, {MAX, 0, MAX}, {0, MAX, MAX}, {MIN, 0, 1}, {0, MIN, 1}, {0, 0, MAX}, {2, 2, MAX}};
     for (int[] b : beyond) {
@@ -986,6 +1028,10 @@ public final class PromisesTest {
     dueTold(25, "worst(0): at the end", x, x.worst(0), 8, 4);
     x.lay(0, 0, -2);
     dueTold(25, "worst(0): at the start", x, x.worst(0), 0, 5);
+    x.lay(0, 1, 9);
+    x.lay(0, 0, 9);
+    x.lay(0, 2, 4);
+    dueTold(25, "worst(0): at 1", x, x.worst(0), 1, 5);
     x.line(40);
     layRow(x, 5);
     x.lay(5, 39, -1);
@@ -1116,17 +1162,13 @@ public final class PromisesTest {
     dueTold(29, "margin(0, 250)", x, x.margin(0, 250), 0, 10500);
     dueTold(29, "margin(1, 250): at 3, its last", x, x.margin(1, 250), 0, 10500 - 60 * 24);
     dueTold(29, "margin(2, 250)", x, x.margin(2, 250), 0, 10500);
-    // A chord at a LOST SLEEPER is within, too.
-    x = withBeds(0, 0, -90, 20, 0, 0, 0, 0);
-    x.lose(3, true);
-    x.lose(4, true);
-    x.lose(5, true);
-    long[] h = new long[8];
-    for (int i = 0; i < 8; i++) {
-      h[i] = rail(x, i);
+    // A chord at a LOST SLEEPER is within, too: no line spans 4 .. 8, and THE RAIL steps from 6 to 7.
+    x.line(20);
+    x.bed(3, 100);
+    for (int i = 4; i <= 8; i++) {
+      x.lose(i, true);
     }
-    long most = Math.max(Math.abs(2 * h[2] - h[1] - h[3]), Math.abs(2 * h[3] - h[2] - h[4]));
-    dueTold(29, "margin(1, 250): LOST ones' chords", x, x.margin(1, 250), 0, 10500 - 60 * most);
+    dueTold(29, "margin(1, 250): LOST ones' chords", x, x.margin(1, 250), 0, 10500 - 60 * 100);
   }
 
   private static void marginAtItsEdge() {
@@ -1164,6 +1206,11 @@ public final class PromisesTest {
   private static void best() {
     BallastLine x = new BallastLine();
     dueTold(31, "best(0)", x, x.best(0), 0, 0);
+    x.work(1, 0);
+    dueTold(31, "best(5): none without gain", x, x.best(5), 0, 0);
+    x.work(1, 1);
+    dueTold(31, "best(5)", x, x.best(5), 1, 2);
+    x = new BallastLine();
     x.work(10, 60);
     x.work(20, 100);
     x.work(30, 120);
