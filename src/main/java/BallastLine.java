@@ -499,7 +499,7 @@ public final class BallastLine {
     /** The SLEEPERS, and THE RAIL that lies on their BEDS. */
     private static final class Track {
         // BEDS stay far above it: 512 calls can't sink one by more than some millions.
-        private static final int NO_LINE = Integer.MIN_VALUE;
+        private static final int NO_LINE = -1000000000;
         private static final int UNSURE = 0, RESTS = 1, HANGS = 2;
 
         private final int[] kinds = new int[MOST_SLEEPERS];
