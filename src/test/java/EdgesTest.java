@@ -280,6 +280,8 @@ public final class EdgesTest {
     edge(2, "N SLEEPERS of KIND 0, as at first: of those that were gone",
         "line(40) sleeper(39,2) stones(39,9) bed(39,5) lose(38,true) line(3)=3 count(1)=0 line(40)=40 told(39,0)=0"
             + " told(39,1)=5 told(38,3)=0 bed(39,0)=1:0 count(1)=0");
+    edge(2, "N SLEEPERS of KIND 0, as at first: none hangs",
+        "beds(0,-9,0) axle(1) table(0,1) pass(1)=0 told(1,2)=0 line(3)=3 pass(1)=0 told(1,2)=3");
     edge(2, "The TRAIN, THE TABLE, RUNS, stretches, WORKS stay",
         "axle(5) axle(6) table(3,9) level(2) lay(2,39,8) pull(1,5) work(4,5) line(3)=3 count(2)=2 count(3)=1"
             + " count(4)=1 table(3,0)=1009 at(2,39)=1:8 cut(1,0)=1:255 best(4)=5:1");
@@ -710,6 +712,7 @@ public final class EdgesTest {
     edge(31, "a budget (0 .. 14000)", "work(1,5) best(0)=0:0 best(14000)=5:1 best(-1|14001|MIN|MAX)=BAD");
     edge(31, "all sets that cost no more: just as much, and 1 less",
         "work(3,5) work(4,6) best(7)=11:3 best(6)=6:2 best(4)=6:2 best(3)=5:1 best(2)=0:0");
+    edge(31, "that with the greatest gain: of 1, the least there is", "work(1,0) work(1,1) best(1)=1:2 best(0)=0:0");
     edge(31, "all sets: all 14, each at its bounds",
         "work(1000,1000)*14 best(14000)=14000:16383 best(13999)=13000:8191 best(999)=0:0");
     edge(31, "of these the least cost", "work(5,9) work(4,9) work(9,0) best(5)=9:2 best(8)=9:2 best(18)=18:3");
