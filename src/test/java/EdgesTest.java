@@ -492,7 +492,7 @@ public final class EdgesTest {
     edge(14, "WOOD takes a quarter of them less (cut)",
         "line(3) lose(1..2,true) sleeper(0,1) axle(1) table(0,3) pass(1)=0 told(0,2)=6 table(0,4) pass(1)=0"
             + " told(0,2)=12 table(0,7) pass(1)=0 told(0,2)=24 table(0,127) pass(1)=2 told(0,2)=16");
-    edge(14, "JOINT (a WOOD one): a quarter less, too",
+    edge(14, "WOOD takes a quarter of them less (cut): a JOINT, too",
         "line(3) lose(1..2,true) sleeper(0,3) axle(1) table(0,3) pass(1)=0 told(0,2)=6 table(0,4) pass(1)=0"
             + " told(0,2)=12 table(0,7) pass(1)=0 told(0,2)=24 table(0,127) pass(1)=2 told(0,2)=16");
     edge(14, "STONE a quarter more (cut)",
@@ -589,7 +589,7 @@ public final class EdgesTest {
         "line(3) row(0,50,3,70) shape(0,4,5)=1 at(0,0)=1:4 at(0,1)=1:5 at(0,2)=1:3");
     edge(21, "(0 beyond N ..", "line(3) row(0,1,1,1,9) lay(0,39,9) shape(0,5,5)=1 at(0,2)=1:4 at(0,3|39)=1:0");
     edge(21, "none beyond 40", "line(40) level(0) shape(0,1,2)=1 at(0,38)=1:39 at(0,39)=1:40");
-    edge(21, "ints that wrap)",
+    edge(21, "ints that wrap",
         WRAPPING + " at(0,27)=1:-2047500000 at(0,28)=1:1919867296 at(0,30)=1:1148467296 at(0,39)=1:-549065408");
     edge(22, "A RUN is missing: 1", "level(0) level(5) tear(5)=1 count(3)=1 tear(0)=1 count(3)=0 at(0|5,0)=NOTHING");
     edge(22, "BAD", "level(0) tear(-1|6|MIN|MAX)=BAD count(3)=1");
@@ -724,7 +724,7 @@ public final class EdgesTest {
     edge(32, "each that still fits is taken: behind one that doesn't",
         "work(5,50) work(9,45) work(4,1) first(9)=51:5 first(13)=51:5 first(14)=95:3");
     edge(32, "each that still fits is taken: without gain, too", "work(1,0)*14 first(14000)=0:16383 first(3)=0:7");
-    edge(32, "gain by cost (a fraction)",
+    edge(32, "by gain by cost",
         "work(1000,999) work(999,998) work(1000,1000) first(1000)=1000:4 first(1999)=1998:6 first(2000)=1999:5");
     edge(32, "of like ones the least",
         "work(4,6) work(2,3) work(6,9) first(4)=6:1 first(2)=3:2 first(6)=9:3 first(10)=9:3 first(12)=18:7");
