@@ -529,8 +529,9 @@ public final class BallastLine {
             }
         }
 
+        // Not by within(): from pass() it would stand nine calls deep.
         private boolean has(int i) {
-            return within(i, 0, size - 1);
+            return i >= 0 && i < size;
         }
 
         private boolean stands(int i) {

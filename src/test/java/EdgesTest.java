@@ -1,5 +1,8 @@
+import java.io.IOException;
 import java.lang.reflect.Method;
 import java.lang.reflect.Modifier;
+import java.nio.file.Files;
+import java.nio.file.Path;
 import java.util.ArrayList;
 import java.util.Arrays;
 import java.util.HashMap;
@@ -18,6 +21,7 @@ import java.util.regex.Pattern;
 // All that is not refused goes to a twin, too: what is refused changed nothing if both tell the same to the end.
 public final class EdgesTest {
   private static final Pattern CALL = Pattern.compile("(\\w+)\\(([^)]*)\\)(?:\\*(\\d+))?(?:=(\\S+))?");
+  private static final Pattern README_CALL = Pattern.compile("(?m)^line\\.(\\w+)\\(([^)]*)\\);(?: +// (-?\\d+)\\b)?");
   private static final String[] FINDINGS = {"", "NOTHING", "BEYOND", "UNLIKE", "NOUGHT", "SIZE"};
   private static final Map<String, Integer> REFUSALS = Map.of("BAD", -1, "FULL", -2, "STATE", -4);
   private static final int PROMISES = 37, MOST_CALLS = 512;
@@ -256,6 +260,19 @@ public final class EdgesTest {
     edge(0, "NOUGHT (shared among none)",
         "lose(0..9,true) mean()=NOUGHT margin(0..3,0)=NOUGHT findings(4)=5 finding()=4");
     edge(0, "SIZE (fewer than none)", "level(0) copy(0,0,0,0,-1|MIN)=SIZE findings(5)=2 finding()=5");
+  }
+
+  // The answers that README.md's example tells.
+  private static void readme() throws IOException {
+    Run run = new Run("README.md");
+    Matcher m = README_CALL.matcher(Files.readString(Path.of("README.md")));
+    int due = 0;
+    while (m.find()) {
+      String want = m.group(3) == null ? "" : "=" + m.group(3);
+      run.play(m.group(1) + "(" + m.group(2).replace(" ", "") + ")" + want);
+      due += want.isEmpty() ? 0 : 1;
+    }
+    due("README.md: it tells some answers", due > 9 ? 1 : 0, 1);
   }
 
   private static void newObject() {
@@ -698,6 +715,8 @@ public final class EdgesTest {
         "line(8) bed(0,40) margin(0|1|3,250)=0:10500 margin(2,250)=0:9900");
     edge(29, "the greatest chord .. within: at its first and last SLEEPER",
         "line(40) bed(10,4) bed(29,4) margin(0|3,250)=0:10440 margin(1|2,250)=0:10380");
+    edge(29, "the greatest chord .. within: at a LOST SLEEPER, too",
+        "line(20) bed(3,100) lose(4..8,true) margin(1,250)=0:4500 lose(5..7,false) margin(1,250)=0:9000");
     edge(29, "the greatest chord: none at the ends of the line",
         "line(3) bed(0,40) bed(1,40) bed(2,40) margin(3,250)=0:10500");
   }
@@ -822,13 +841,14 @@ public final class EdgesTest {
     }
   }
 
-  public static void main(String[] args) {
+  public static void main(String[] args) throws IOException {
     for (Method m : BallastLine.class.getDeclaredMethods()) {
       if (Modifier.isPublic(m.getModifiers())) {
         METHODS.put(m.getName(), m);
       }
     }
     refusals();
+    readme();
     newObject();
     line();
     sleeper();
